@@ -309,6 +309,7 @@ public final class PromisesTest {
         joined.make(2, 1805, 0);
         joined.lay(2, 0, 0);
         rowIs("before the storm", joined, 1805, J, 200);
+        joined.fault(1, 1805);
         joined.fault(0, 1804);
         joined.fault(1, 1805);
         joined.pass(1);
@@ -407,6 +408,12 @@ public final class PromisesTest {
         tops.make(1, 600, 0);
         tops.sound(0, 600, 0);
         is("each type in a cell is looked at", tops.lay(1, 0, 0), 0);
+        CableShip one = new CableShip();
+        one.make(2, 1, 0);
+        one.make(1, 1004, 0);
+        one.make(0, 2000, 1);
+        one.lay(1, 0, 0);
+        is("what lies last is a single metre of type 2", one.lay(1, 0, 1), 0);
         CableShip slack = new CableShip();
         slack.make(1, 1026, 0);
         slack.sound(0, 99, 0);
@@ -495,6 +502,14 @@ public final class PromisesTest {
         apart.make(2, 50, 0);
         apart.pass(2);
         fails("two types apart within", STATE, () -> apart.takeUp(0));
+        CableShip one = shipIn("csc");
+        one.make(2, 201, 0);
+        one.make(1, 1804, 0);
+        one.make(0, 2000, 1);
+        one.lay(2, 0, 0);
+        one.pass(2);
+        rowIs("with a single metre at its end", one, 1804, J, 1);
+        fails("two types apart from a single metre", STATE, () -> one.takeUp(1));
         is("nothing of it goes out", apart.tank(0, 0), 250);
     }
 
@@ -609,6 +624,12 @@ public final class PromisesTest {
         is("a repeater at the place is not on B's side", onlyFirst.measure(true, false, 150), 28000);
         onlyFirst.fault(CableShip.BREAK, 72004);
         is("the nearer one is found from B", onlyFirst.measure(true, false, 150), 28000);
+        CableShip equal = fullLineOfType(1);
+        equal.fault(CableShip.BREAK, 500);
+        equal.fault(CableShip.BREAK, 500);
+        equal.measure(false, false, 0);
+        equal.measure(true, false, 0);
+        is("of two at a place the one that came first", equal.ofFault(1, 2), 100005);
         CableShip end = fullLine();
         end.fault(CableShip.BREAK, 100004);
         end.repeater();
@@ -714,6 +735,14 @@ public final class PromisesTest {
         types.pass(2);
         types.make(1, 1405, 2);
         fails("two types apart from what is behind", STATE, () -> types.mend(1, 2));
+        CableShip one = shipIn("csc");
+        one.make(1, 9000, 0);
+        one.make(2, 500, 0);
+        one.make(1, 1004, 0);
+        one.make(0, 2000, 1);
+        one.lay(3, 0, 0);
+        one.pass(2);
+        fails("two types apart from a single metre ahead", STATE, () -> one.mend(1, 1));
         is("not from what is ahead", types.mend(0, 2), 0);
     }
 
@@ -820,9 +849,12 @@ public final class PromisesTest {
         is("the fourth one has some", ship.way(3), 2);
         CableShip line = fullLine();
         line.feed(9999, 9999);
-        line.demand(0, 1, 8);
+        line.demand(0, 1, 7);
+        line.demand(1, 0, 1);
+        line.demand(0, 1, 1);
+        is("this line carries 8 waves", line.restore(), 1);
         line.fault(CableShip.BREAK, 5);
-        is("a line that is broken carries nothing", line.restore(), 1);
+        is("a line that is broken carries nothing", line.restore(), 3);
     }
 
     private static void way() {
@@ -1154,6 +1186,8 @@ public final class PromisesTest {
         is("100 metres ahead of it", shunt.isFed(), false);
         shunt.feed(1, 1078);
         is("99905 metres behind it", shunt.isFed(), true);
+        shunt.feed(1, 1077);
+        is("too little for these", shunt.isFed(), false);
         CableShip last = fullLine();
         last.fault(CableShip.SHUNT, 99905);
         last.feed(9999, 0);
