@@ -1,17 +1,5 @@
 /** Each promise by itself: ordinary inputs, the edges that the document names, and wrong inputs. */
-public final class PromisesTest {
-    private static final Class<?> ARGUMENT = IllegalArgumentException.class;
-    private static final Class<?> STATE = IllegalStateException.class;
-    private static final Class<?> INDEX = IndexOutOfBoundsException.class;
-    private static final int NONE = CableShip.NONE;
-
-    private static int promise;
-    private static int wrong;
-
-    private interface Call {
-        void run();
-    }
-
+public final class PromisesTest extends ShipTestBase {
     public static void main(String[] args) {
         newObject();
         sound();
@@ -55,115 +43,8 @@ public final class PromisesTest {
         ofFault();
         faults();
         isKept();
-        if (wrong > 0) {
-            System.out.println(wrong + " answers are wrong");
-            System.exit(1);
-        }
+        end();
     }
-
-    // ---- what the tests share
-
-    private static void is(String call, long got, long due) {
-        if (got != due) {
-            wrong++;
-            System.out.println("promise " + promise + ": " + call + " answered " + got + ", due is " + due);
-        }
-    }
-
-    private static void is(String call, boolean got, boolean due) {
-        is(call, got ? 1 : 0, due ? 1 : 0);
-    }
-
-    private static void fails(String call, Class<?> due, Call tried) {
-        Class<?> got = null;
-        try {
-            tried.run();
-        } catch (RuntimeException thrown) {
-            got = thrown.getClass();
-        }
-        if (got != due) {
-            wrong++;
-            System.out.println("promise " + promise + ": " + call + " threw " + got + ", due is " + due);
-        }
-    }
-
-    private static int drawOf(int seed, int day) {
-        int draw = seed;
-        for (int i = 0; i < day; i++) {
-            draw = (75 * draw + 74) % 65537;
-        }
-        return draw;
-    }
-
-    /** A seed whose first days have just these waves: c calm (at most 6), h high (7 or 8), s a storm (9). */
-    private static int seedOf(String days) {
-        for (int seed = 0; seed <= 65536; seed++) {
-            boolean fits = true;
-            for (int i = 0; i < days.length() && fits; i++) {
-                int waves = drawOf(seed, i) % 10;
-                fits = days.charAt(i) == (waves <= 6 ? 'c' : waves <= 8 ? 'h' : 's');
-            }
-            if (fits) {
-                return seed;
-            }
-        }
-        throw new IllegalStateException("no seed for " + days);
-    }
-
-    private static CableShip shipIn(String days) {
-        CableShip ship = new CableShip();
-        ship.weather(seedOf(days));
-        return ship;
-    }
-
-    /** A line from A to B on the ninth day: spans 36005, 23995, 12005 and 28000, two repeaters and a joint. */
-    private static CableShip fullLine() {
-        return fullLineOfType(1, 36, 72);
-    }
-
-    /** A line from A to B on the ninth day, of two pieces of 60000 metres, with repeaters behind so many cells. */
-    private static CableShip fullLineOfType(int type, int... cellsAheadOfRepeaters) {
-        CableShip ship = shipIn("ccccccccc");
-        ship.make(type, 60000, 0);
-        ship.make(type, 60000, 0);
-        for (int cell = 0; cell < 100; cell++) {
-            if (cell > 0 && cell % 12 == 0) {
-                ship.pass(1);
-            }
-            for (int each : cellsAheadOfRepeaters) {
-                if (each == cell) {
-                    ship.repeater();
-                }
-            }
-            ship.lay(1, 0, 0);
-        }
-        return ship;
-    }
-
-    private static void passUntilCalm(CableShip ship) {
-        do {
-            ship.pass(1);
-        } while (!ship.canWork());
-    }
-
-    private static void rowIs(String after, CableShip ship, int... kindsAndMetres) {
-        StringBuilder got = new StringBuilder();
-        for (int i = 0; i < ship.line(2); i++) {
-            int kind = ship.thing(i, 0);
-            got.append(kind == CableShip.SPAN ? " " + (ship.thing(i, 3) - ship.thing(i, 2) + 1)
-                : kind == CableShip.JOINT ? " J" : " R");
-        }
-        StringBuilder due = new StringBuilder();
-        for (int each : kindsAndMetres) {
-            due.append(each == -1 ? " J" : each == -2 ? " R" : " " + each);
-        }
-        if (!got.toString().equals(due.toString())) {
-            wrong++;
-            System.out.println("promise " + promise + ": the row " + after + " is" + got + ", due is" + due);
-        }
-    }
-
-    private static final int J = -1, R = -2;
 
     // ---- the promises
 
@@ -724,7 +605,7 @@ public final class PromisesTest {
         between.make(1, 1000, 1);
         between.make(2, 5, 1);
         between.lay(2, 0, 0);
-        is("three cells", between.line(1), 2);
+        is("two of three cells, as the tank has too little", between.line(1), 2);
         CableShip types = shipIn("csc");
         types.make(1, 1005, 0);
         types.lay(1, 0, 0);
